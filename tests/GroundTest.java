@@ -1,3 +1,5 @@
+import java.util.Random;
+
 /** Promises 12 to 16 and 22: steps, began, breaks, getsOut, safe, woods. */
 public final class GroundTest {
     public static void main(String[] args) {
@@ -5,6 +7,7 @@ public final class GroundTest {
         steps(due);
         began(due);
         breaks(due);
+        breaksOfDrawnTowns(due);
         getsOut(due);
         safe(due);
         woods(due);
@@ -99,6 +102,27 @@ public final class GroundTest {
         due.is("a way goes back", x.breaks(0, 41), 2);
         Due.town(x, ".4#/##..#/#.3#/3#.#/..3#");
         due.is("another", x.breaks(1, 52), 2);
+    }
+
+    private static void breaksOfDrawnTowns(Due due) {
+        Random random = new Random(7);
+        for (int k = 0; k < 400; k++) {
+            StringBuilder told = new StringBuilder();
+            int wood = 50 + random.nextInt(45);
+            for (int p = 0; p < 96; p++) {
+                told.append(p > 0 && p % 12 == 0 ? "/" : "").append(random.nextInt(100) < wood ? "#" : ".");
+            }
+            InsuredFlame x = new InsuredFlame();
+            Model model = new Model();
+            due.is("the same town", Due.town(x, told.toString()), model.town(told.toString()));
+            for (int pair = 0; pair < 20; pair++) {
+                int from = random.nextInt(96);
+                int to = random.nextInt(96);
+                if (from != to && model.wood(from) && model.wood(to) && !Model.next(from).contains(to)) {
+                    due.is("breaks " + from + ", " + to + " in " + told, x.breaks(from, to), model.breaksByWays(from, to));
+                }
+            }
+        }
     }
 
     private static void getsOut(Due due) {

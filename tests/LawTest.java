@@ -116,6 +116,8 @@ public final class LawTest {
         due.is("rest of a negative one", burnsFor("b5+[0-7]%4(1=1)"), 2);
         due.is("32 bits", burnsFor("b99999*99999*0+7(1=1)"), 7);
         due.is("wraps around", burnsFor("b99999*99999/20000/10000(1=1)"), 7);
+        due.is("as much as can wait", burnsFor("b0+1*[0+1*[0+1*[0+1*[0+1*[0+1*[7]]]]]](1=1)"), 7);
+        due.is("as much as can wait in a C", burnsFor("b6(0+7=0+1*[0+1*[0+1*[0+1*[0+1*[7]]]]])"), 6);
         due.is("least by -1", burnsFor("b5([0-65536*32768]/[0-1]<0)"), 5);
         due.is("least rest -1", burnsFor("b5([0-65536*32768]%[0-1]=0)"), 5);
     }

@@ -688,6 +688,34 @@ final class Model {
         return 4;
     }
 
+    /** As breaks, for towns with too much WOOD to try all: by ways from node to node, found depth first. */
+    int breaksByWays(int from, int to) {
+        boolean[][] arc = new boolean[192][192];
+        for (int p = 0; p < 96; p++) {
+            arc[p][96 + p] = p != from && p != to;
+            for (int q : next(p)) {
+                arc[96 + p][q] = wood(p) && wood(q);
+            }
+        }
+        int ways = 0;
+        while (turnsAWay(arc, 96 + from, to, new boolean[192])) {
+            ways++;
+        }
+        return ways;
+    }
+
+    private static boolean turnsAWay(boolean[][] arc, int node, int to, boolean[] seen) {
+        seen[node] = true;
+        for (int next = 0; next < 192; next++) {
+            if (arc[node][next] && !seen[next] && (next == to || turnsAWay(arc, next, to, seen))) {
+                arc[node][next] = false;
+                arc[next][node] = true;
+                return true;
+            }
+        }
+        return node == to;
+    }
+
     private boolean parts(List<Integer> woods, int first, int k, Set<Integer> water, int from, int to) {
         if (k == 0) {
             Set<Integer> fire = Set.of(from);

@@ -1,6 +1,9 @@
 import java.util.Random;
 
-/** All promises over many runs of drawn calls, each answer beside that of Model. */
+/**
+ * All promises over many runs of drawn calls, each answer beside that of Model.
+ * A run has more than 512 calls (asking for all the state takes many); this class has no end there.
+ */
 public final class ModelTest {
     private static final int RUNS = 600;
     private static final int CALLS = 100;

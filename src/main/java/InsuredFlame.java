@@ -928,10 +928,12 @@ public final class InsuredFlame {
 
         static final int RULES_MOST = 16;
         private static final int STEPS_MOST = LAW_MOST;
+        /** Two values wait at most for each of six brackets and what is around them. */
+        private static final int STACK_MOST = 32;
 
         private final int[] ops = new int[STEPS_MOST];
         private final int[] args = new int[STEPS_MOST];
-        private final int[] stack = new int[STEPS_MOST];
+        private final int[] stack = new int[STACK_MOST];
         private final int[] ruleLetter = new int[RULES_MOST];
         private final int[] amountAt = new int[RULES_MOST];
         private final int[] conditionAt = new int[RULES_MOST];
@@ -1026,7 +1028,7 @@ public final class InsuredFlame {
                 int arg = args[at];
                 at++;
                 if (op == PUSH || op == LETTER) {
-                    if (depth >= STEPS_MOST) {
+                    if (depth >= STACK_MOST) {
                         return 0;
                     }
                     stack[depth] = op == PUSH ? arg : letters[arg];
@@ -1082,21 +1084,19 @@ public final class InsuredFlame {
         private static final int OPEN_MOST = 6;
 
         private final Text text = new Text();
-        private Law draft = new Law();
 
-        int read(int[] tape, int n, Law target) {
+        int read(int[] tape, int n, Law draft) {
             text.begin(tape, n);
-            draft = target;
             draft.clear();
             boolean more = true;
             for (int k = 0; k <= Law.RULES_MOST && more; k++) {
-                int letter = readLetter(k);
+                int letter = readLetter(draft, k);
                 if (letter == 'b' || letter == 's') {
-                    readAmount(0);
+                    readAmount(draft, 0);
                 }
                 draft.beginCondition();
                 text.expect('(');
-                readCondition(1);
+                readCondition(draft, 1);
                 text.expect(')');
                 draft.endRule();
                 more = text.sign() == ';';
@@ -1109,7 +1109,7 @@ public final class InsuredFlame {
             return text.answerOr(draft.rules);
         }
 
-        private int readLetter(int rulesAhead) {
+        private int readLetter(Law draft, int rulesAhead) {
             int letter = text.sign();
             if (letter != 'b' && letter != 's' && letter != 'x') {
                 text.fail(1, text.pos);
@@ -1122,10 +1122,10 @@ public final class InsuredFlame {
             return letter;
         }
 
-        private void readCondition(int open) {
+        private void readCondition(Law draft, int open) {
             int ands = NONE;
             int ors = NONE;
-            readTest(open);
+            readTest(draft, open);
             for (int k = 0; k < LAW_MOST; k++) {
                 int sign = text.sign();
                 if (sign == '&') {
@@ -1138,31 +1138,31 @@ public final class InsuredFlame {
                     break;
                 }
                 text.skip();
-                readTest(open);
+                readTest(draft, open);
             }
             draft.aimHere(ands);
             draft.aimHere(ors);
         }
 
-        private void readTest(int open) {
+        private void readTest(Law draft, int open) {
             int sign = text.sign();
             boolean opens = sign == '!' || sign == '(';
             if (opens && open >= OPEN_MOST) {
                 text.fail(5, text.pos);
             } else if (sign == '!') {
                 text.skip();
-                readTest(open + 1);
+                readTest(draft, open + 1);
                 draft.emit(Law.NOT, 0);
             } else if (sign == '(') {
                 text.skip();
-                readCondition(open + 1);
+                readCondition(draft, open + 1);
                 text.expect(')');
             } else {
-                readAmount(open);
+                readAmount(draft, open);
                 int compares = text.sign();
                 if (compares == '<' || compares == '>' || compares == '=') {
                     text.skip();
-                    readAmount(open);
+                    readAmount(draft, open);
                     draft.emit(compares, 0);
                 } else {
                     text.fail(1, text.pos);
@@ -1171,14 +1171,14 @@ public final class InsuredFlame {
         }
 
         /** An E: the + or - of a TERM waits till the TERM has ended. */
-        private void readAmount(int open) {
+        private void readAmount(Law draft, int open) {
             int waiting = 0;
-            readFactor(open);
+            readFactor(draft, open);
             for (int k = 0; k < LAW_MOST; k++) {
                 int sign = text.sign();
                 if (sign == '*' || sign == '/' || sign == '%') {
                     text.skip();
-                    readFactor(open);
+                    readFactor(draft, open);
                     draft.emit(sign, 0);
                     continue;
                 }
@@ -1190,11 +1190,11 @@ public final class InsuredFlame {
                 }
                 waiting = sign;
                 text.skip();
-                readFactor(open);
+                readFactor(draft, open);
             }
         }
 
-        private void readFactor(int open) {
+        private void readFactor(Law draft, int open) {
             int sign = text.sign();
             if (sign == '[') {
                 if (open >= OPEN_MOST) {
@@ -1202,7 +1202,7 @@ public final class InsuredFlame {
                     return;
                 }
                 text.skip();
-                readAmount(open + 1);
+                readAmount(draft, open + 1);
                 text.expect(']');
             } else if (text.isDigit()) {
                 draft.emit(Law.PUSH, text.number(DIGITS_MOST));
