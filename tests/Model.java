@@ -228,10 +228,10 @@ final class Model {
         } else if (sign() == '*') {
             at++;
             int p = place();
-            lineEnds();
             if (!wood(p) || state[p] != 0) {
                 throw new Fault(8, first + 1);
             }
+            lineEnds();
             state[p] = 1;
             left[p] = 3;
         } else if (sign() == '~') {

@@ -6,6 +6,7 @@ public final class OrdersTest {
         paid(due);
         places(due);
         faults(due);
+        lineEndsWithItsPlace(due);
         linesAtMost(due);
         nothingByAFault(due);
         due.end();
@@ -96,13 +97,31 @@ public final class OrdersTest {
             "0@,1", "0@1;", "0@1,", "0@1,1;", "0@1,1;;", "1=5", "1=", "1+x", "1*1", "1~", "1", "1;", "*", "*0", "*0,0,", "*1,0", "*1,0,", "*2,0", "*3,0", "*4,0", "*12,0", "*0,8", "*0,0;*0,0", "*0,0;~0,0;*0,0",
             "~", "~12,0", "~0,8", "~0,0x", "!", "!4", "!x", "!12", "!1;", ";", "@1,1", "0@1,1;1=1", "1=1;1@1,1", "*00001,0", "=1", "0==1", "0@1.1", "0=1;1=1"};
         int[] wants = {-1000, -1001, -1001, -1002, -1002, -1002, -1003, -1003, -2006, -2004, -3000, -3000, -3000, -3000, -3002, -3002, -3002, -3004, -3004, -3004, -2008,
-            -1002, -1003, -1004, -1006, -1006, -7000, -7000, -7000, -1001, -1001, -1001, -1001, -1001, -1002, -1004, -8001, -1004, -8001, -8001, -8001, -3001, -3003, -8006, -8011,
+            -1002, -1003, -1004, -1006, -1006, -7000, -7000, -7000, -1001, -1001, -1001, -1001, -1001, -1002, -1004, -8001, -8001, -8001, -8001, -8001, -3001, -3003, -8006, -8011,
             -1001, -3001, -3003, -1004, -1001, -1001, -1001, -1002, -1003, -1000, -1000, -7006, -7000, -2005, -1000, -1002, -1003, -7004};
         due.is("as many wants", wants.length, texts.length);
         for (int k = 0; k < Math.min(texts.length, wants.length); k++) {
             due.orders(x, texts[k], wants[k]);
         }
         due.is("nothing is done", x.count(3), 0);
+    }
+
+    private static void lineEndsWithItsPlace(Due due) {
+        InsuredFlame x = new InsuredFlame();
+        Due.town(x, "##+~.");
+        due.orders(x, "*4,0\0", -8001);
+        due.orders(x, "*2,0x", -8001);
+        due.orders(x, "*3,0*0,0", -8001);
+        due.orders(x, "!1;*4,0@", -8004);
+        due.orders(x, "*0,0x", -1004);
+        due.orders(x, "*0,0;*0,0x", -8006);
+        due.orders(x, "*4,00000", -2007);
+        due.orders(x, "*4,0000x", -8001);
+        due.orders(x, "*4,8x", -3003);
+        due.orders(x, "*4,x", -1003);
+        due.orders(x, "*4,", -1003);
+        due.orders(x, "*4x", -1002);
+        due.is("nothing is lit", x.count(3), 0);
     }
 
     private static void linesAtMost(Due due) {

@@ -828,7 +828,6 @@ public final class InsuredFlame {
             text.skip();
             int first = text.pos;
             int place = readPlace();
-            endLine();
             if (text.isGood() && isNumber(place)) {
                 if (scene.isWholeWood(place)) {
                     scene.setState(place, BURNING, LIT_MINUTES);
@@ -836,6 +835,8 @@ public final class InsuredFlame {
                     text.fail(8, first);
                 }
             }
+            // The LINE ends with its Y: what can't stand behind it is a FAULT further to the right.
+            endLine();
         }
 
         private void readWatering(Scene scene) {
