@@ -2,12 +2,20 @@
 final class Due {
     private int wrong = 0;
     private int asked = 0;
+    private int sentences = 0;
+    private String sentence = "";
+
+    /** What is asked from here on is asked for this sentence of the document. */
+    void sentence(String words) {
+        sentences++;
+        sentence = "[" + words + "] ";
+    }
 
     void is(String call, long got, long want) {
         asked++;
         if (got != want) {
             wrong++;
-            System.out.println(call + " answered " + got + ", due is " + want);
+            System.out.println(sentence + call + " answered " + got + ", due is " + want);
         }
     }
 
@@ -36,6 +44,50 @@ final class Due {
         return fed(x, bytes);
     }
 
+    /** A new object with a town, orders and a law; an empty text is not told. */
+    static InsuredFlame flame(String town, String orders, String law) {
+        InsuredFlame x = new InsuredFlame();
+        if (!town.isEmpty()) {
+            town(x, town);
+        }
+        if (!orders.isEmpty()) {
+            orders(x, orders);
+        }
+        if (!law.isEmpty()) {
+            law(x, law);
+        }
+        return x;
+    }
+
+    /** Feeds till the tape has so many bytes (by twenties), all of them the same. */
+    static void fill(InsuredFlame x, int many, int sign) {
+        int word = sign * 0x01010101;
+        while (x.count(7) < many) {
+            x.feed(word, word, word, word, word);
+        }
+    }
+
+    /** Tells the THINGS from first to last at a PLACE ("x,y"), each with the VALUE and the SUM. */
+    static void things(InsuredFlame x, int first, int last, String place, int value, int sum) {
+        for (int i = first; i <= last; i++) {
+            orders(x, i + "@" + place + ";" + i + "=" + value + ";" + i + "+" + sum);
+        }
+    }
+
+    /** X behind a DRAW. */
+    static int drawn(int x) {
+        return (int) ((25173L * x + 13849L) % 65536L);
+    }
+
+    /** The lowest X whose next DRAW is this one. */
+    static int seedOf(int draw) {
+        int x = 0;
+        while (drawn(x) % 10 != draw) {
+            x++;
+        }
+        return x;
+    }
+
     static int law(InsuredFlame x, String text) {
         return x.law(fed(x, text));
     }
@@ -61,7 +113,8 @@ final class Due {
     }
 
     void end() {
-        System.out.println(wrong == 0 ? "all " + asked + " answers are as due" : wrong + " of " + asked + " answers are not as due");
+        String all = asked + " answers" + (sentences == 0 ? "" : " to " + sentences + " sentences");
+        System.out.println(wrong == 0 ? "all " + all + " are as due" : wrong + " of " + all + " are not as due");
         if (wrong != 0) {
             System.exit(1);
         }

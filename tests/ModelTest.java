@@ -1,18 +1,17 @@
 import java.util.Random;
 
-/**
- * All promises over many runs of drawn calls, each answer beside that of Model.
- * A run has more than 512 calls (asking for all the state takes many); this class has no end there.
- */
+/** All promises over many runs of drawn calls, each answer beside that of Model. */
 public final class ModelTest {
-    private static final int RUNS = 600;
-    private static final int CALLS = 100;
+    private static final int RUNS = 4000;
+    /** What later calls answer is free; a step with its look at the state, and the last look, take 275 at most. */
+    private static final int CALLS = 512 - 275;
 
     private final Due due;
     private final Random random;
     private final InsuredFlame flame = new InsuredFlame();
     private final Model model = new Model();
     private final int run;
+    private int calls = 0;
 
     private ModelTest(Due due, int run) {
         this.due = due;
@@ -23,7 +22,7 @@ public final class ModelTest {
     public static void main(String[] args) {
         Due due = new Due();
         for (int run = 0; run < RUNS; run++) {
-            new ModelTest(due, run).calls();
+            new ModelTest(due, run).play();
         }
         due.end();
     }
@@ -40,14 +39,26 @@ public final class ModelTest {
         return of[below(of.length)];
     }
 
+    /** Each answer is that of one call. */
     private void is(String call, long got, long want) {
+        calls++;
         due.is("run " + run + ": " + call, got, want);
     }
 
-    private void calls() {
+    private int fed(String text) {
+        calls += (text.length() + 19) / 20;
+        return Due.fed(flame, text);
+    }
+
+    private void fed(int[] bytes) {
+        calls += (bytes.length + 19) / 20;
+        Due.fed(flame, bytes);
+    }
+
+    private void play() {
         tellTown();
         tellLaw();
-        for (int k = 0; k < CALLS; k++) {
+        while (calls < CALLS) {
             switch (below(20)) {
                 case 0:
                     if (rarely()) {
@@ -116,7 +127,7 @@ public final class ModelTest {
         if (told.isEmpty()) {
             return;
         }
-        is("town " + told, Due.town(flame, told), model.town(told));
+        is("town " + told, flame.town(fed(told)), model.town(told));
     }
 
     private String amount(int deep) {
@@ -171,7 +182,7 @@ public final class ModelTest {
         if (told.isEmpty()) {
             return;
         }
-        is("law " + told, Due.law(flame, told), model.law(told));
+        is("law " + told, flame.law(fed(told)), model.law(told));
         is("count 6", flame.count(6), model.rules.size());
     }
 
@@ -215,13 +226,13 @@ public final class ModelTest {
         if (told.isEmpty()) {
             return;
         }
-        is("orders " + told, Due.orders(flame, told), model.orders(told));
+        is("orders " + told, flame.orders(fed(told)), model.orders(told));
     }
 
     private void burn() {
         if (below(4) == 0) {
             int seed = below(65536);
-            flame.seed(seed);
+            is("seed " + seed, flame.seed(seed) ? 1 : 0, 1);
             model.x = seed;
         }
         int n = 1 + below(rarely() ? 100 : 4);
@@ -252,24 +263,24 @@ public final class ModelTest {
         int[] b = bytes(40, most);
         int what = below(3);
         int much = below(pickInt(10, 100, 2551));
-        Due.fed(flame, b);
+        fed(b);
         is("insure", flame.insure(n, much, what), Model.insure(b, n, much, what));
         int companies = 2 + below(5);
         int first = below(companies);
-        Due.fed(flame, b);
+        fed(b);
         is("ruin", flame.ruin(companies, first, what & 1), Model.ruin(b, companies, first, what & 1));
         int things = 1 + below(7);
         for (int i = 0; i < 3 * things; i += 3) {
             b[i] += b[i] == 0 && below(20) != 0 ? 1 : 0;
             b[i] %= below(20) != 0 ? 60 : 256;
         }
-        Due.fed(flame, b);
+        fed(b);
         is("carried", flame.carried(things), Model.carried(b, things));
         int insured = 1 + below(8);
         for (int i = 0; i < insured; i++) {
             b[2 * i + 1] %= 11 + (rarely() ? 1 : 0);
         }
-        Due.fed(flame, b);
+        fed(b);
         is("premium", flame.premium(insured, what & 1), Model.premium(b, insured, what & 1));
         int v = 1 + below(pickInt(100, 10000, 999999));
         is("roundFigure " + v, flame.roundFigure(v), Model.roundFigure(v));
@@ -303,8 +314,10 @@ public final class ModelTest {
         is("over " + n, flame.over(n), model.over(n));
     }
 
+    /** Of one drawn row of PLACES and six drawn THINGS. */
     private void state() {
-        for (int p = 0; p < 96; p++) {
+        int row = 12 * below(rarely() ? 8 : 7);
+        for (int p = row; p < row + 12; p++) {
             int[] wants = {".#+~".indexOf(model.kinds.charAt(p)), model.state[p], model.left[p], 0, model.sums(p, false), model.sums(p, true)};
             for (int i = 0; i < 24; i++) {
                 wants[3] |= model.things[i].left() && model.things[i].place == p ? 1 << i : 0;
@@ -315,19 +328,25 @@ public final class ModelTest {
         }
         int[] bytes = new int[24];
         for (int i = 0; i < 24; i++) {
-            Model.Thing t = model.things[i];
-            int paid = t.sum >= t.value ? t.value : (int) ((long) t.sum * t.sum / t.value);
-            int[] wants = {t.place, t.value, t.sum, t.gone ? 1 : 0, paid};
-            for (int what = 0; what < 5; what++) {
-                is("thingIs " + i + ", " + what, flame.thingIs(i, what), t.told ? wants[what] : -1);
-            }
-            bytes[i] = t.gone ? 0 : t.value % 256;
+            bytes[i] = model.things[i].gone ? 0 : model.things[i].value % 256;
+        }
+        for (int k = 0; k < 6; k++) {
+            thingState(below(rarely() ? 24 : 6));
         }
         int[] wants = {model.minute, model.bits(false), model.bits(true), model.places(1), model.places(2), model.wind, model.rules.size(), 0, model.x, model.lost()};
         for (int what = 0; what < 10; what++) {
             is("count " + what, flame.count(what), wants[what]);
         }
-        Due.fed(flame, bytes);
+        fed(bytes);
         is("check", flame.check(24), -1);
+    }
+
+    private void thingState(int i) {
+        Model.Thing t = model.things[i];
+        int paid = t.sum >= t.value ? t.value : (int) ((long) t.sum * t.sum / t.value);
+        int[] wants = {t.place, t.value, t.sum, t.gone ? 1 : 0, paid};
+        for (int what = 0; what < 5; what++) {
+            is("thingIs " + i + ", " + what, flame.thingIs(i, what), t.told ? wants[what] : -1);
+        }
     }
 }

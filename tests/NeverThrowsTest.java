@@ -80,7 +80,7 @@ public final class NeverThrowsTest {
 
     private static String state(InsuredFlame x) {
         StringBuilder all = new StringBuilder();
-        for (int p = 0; p < 96; p++) {
+        for (int p = 0; p < 24; p++) {
             for (int what = 0; what < 6; what++) {
                 all.append(x.placeIs(p % 12, p / 12, what)).append(' ');
             }

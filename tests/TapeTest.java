@@ -19,9 +19,10 @@ public final class TapeTest {
         due.is("count 10", x.count(10), -1);
         due.is("count least", x.count(Integer.MIN_VALUE), -1);
         for (int y = 0; y < 8; y++) {
+            InsuredFlame ofRow = new InsuredFlame();
             for (int p = 0; p < 12; p++) {
                 for (int what = 0; what < 6; what++) {
-                    due.is("new placeIs", x.placeIs(p, y, what), 0);
+                    due.is("new placeIs", ofRow.placeIs(p, y, what), 0);
                 }
             }
         }
