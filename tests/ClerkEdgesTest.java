@@ -93,6 +93,8 @@ public final class ClerkEdgesTest {
 
     private static void insureAnswers(Due due) {
         due.sentence("INSURE: a worth (0 to 255), a premium (0 to 255)");
+        insured(due, 1, new int[] {1, 1, 1}, 1, 1);
+        insured(due, 0, new int[] {1, 0, 1}, 1, 0);
         insured(due, 255, new int[] {255, 255, 1}, 255, 255);
         insured(due, 254, new int[] {0, 0, 0}, 255, 255);
         insured(due, 2550, new int[] {2550, 2550, 1023}, times(10, 255, 255));
@@ -252,6 +254,13 @@ public final class ClerkEdgesTest {
         }
         for (int first = 0; first < 6; first++) {
             ruined(due, 6, first, 63 - (1 << (first + 5) % 6), chain);
+        }
+        int[] back = new int[36];
+        for (int i = 0; i < 6; i++) {
+            back[6 * ((i + 1) % 6) + i] = 5;
+        }
+        for (int first = 0; first < 6; first++) {
+            ruined(due, 6, first, 63 - (1 << (first + 1) % 6), back);
         }
         due.sentence("RUIN: one that has enough ends it");
         chain[21] = 5;

@@ -1,5 +1,7 @@
 /** What the tests share: telling answers that are not as due, and feeding texts. */
 final class Due {
+    static final String ALL_WOOD = "9#3#/9#3#/9#3#/9#3#/9#3#/9#3#/9#3#/9#3#";
+
     private int wrong = 0;
     private int asked = 0;
     private int sentences = 0;

@@ -1,6 +1,5 @@
 /** Promises 6, 7, 10 and 11 at their bounds: minutes, tried, comes, over, and A MINUTE among the terms. */
 public final class FireEdgesTest {
-    private static final String EIGHT_ROWS = "9#3#/9#3#/9#3#/9#3#/9#3#/9#3#/9#3#/9#3#";
     private static final String ALWAYS = "s10(1=1);b9(1=1)";
     private static final int[] NO_SUCH_N = {0, -1, -100, 101, 102, 256, 9999, Integer.MAX_VALUE, Integer.MIN_VALUE};
 
@@ -43,7 +42,7 @@ public final class FireEdgesTest {
             due.is("MINUTES yet", y.placeIs(0, 0, 2), 3);
         }
         due.sentence("promise 6: how many PLACES are BURNING then: none, all");
-        InsuredFlame z = Due.flame(EIGHT_ROWS, "", ALWAYS);
+        InsuredFlame z = Due.flame(Due.ALL_WOOD, "", ALWAYS);
         due.is("none", z.minutes(100), 0);
         due.is("no DRAWS", z.count(8), 1);
         Due.orders(z, "*0,0;*3,0;*6,0;*9,0;*1,2;*4,2;*7,2;*10,2;*0,4;*3,4;*6,4;*9,4;*1,6;*4,6;*7,6;*10,6");
@@ -113,7 +112,7 @@ public final class FireEdgesTest {
     private static void edgesOfTheTown(Due due) {
         due.sentence("A MINUTE: PLACES NEXT are up, right, down, left, and none beyond an edge");
         for (int place = 0; place < 96; place++) {
-            InsuredFlame x = Due.flame(EIGHT_ROWS, "*" + place % 12 + "," + place / 12, ALWAYS);
+            InsuredFlame x = Due.flame(Due.ALL_WOOD, "*" + place % 12 + "," + place / 12, ALWAYS);
             x.minutes(1);
             for (int other = 0; other < 96; other++) {
                 int far = Math.abs(place % 12 - other % 12) + Math.abs(place / 12 - other / 12);
@@ -269,7 +268,7 @@ public final class FireEdgesTest {
             }
         }
         due.sentence("A MINUTE: no DRAW where nothing is BURNING");
-        InsuredFlame y = Due.flame(EIGHT_ROWS, "", ALWAYS);
+        InsuredFlame y = Due.flame(Due.ALL_WOOD, "", ALWAYS);
         y.minutes(100);
         due.is("count 8", y.count(8), 1);
     }
@@ -370,7 +369,7 @@ public final class FireEdgesTest {
 
     private static void comesBounds(Due due) {
         due.sentence("promise 10: n MINUTES (1 to 100), PLACES at the corners");
-        InsuredFlame x = Due.flame(EIGHT_ROWS, "*0,0", ALWAYS);
+        InsuredFlame x = Due.flame(Due.ALL_WOOD, "*0,0", ALWAYS);
         due.is("comes 0, 0, 1", x.comes(0, 0, 1), 0);
         due.is("comes 11, 0, 100", x.comes(11, 0, 100), 11);
         due.is("comes 0, 7, 100", x.comes(0, 7, 100), 7);

@@ -1,6 +1,5 @@
 /** Promises 12 to 16 and 22 at their bounds: steps, began, breaks, getsOut, safe, woods. */
 public final class GroundEdgesTest {
-    private static final String EIGHT_ROWS = "9#3#/9#3#/9#3#/9#3#/9#3#/9#3#/9#3#/9#3#";
     /** One way through the town, 53 PLACES long: from (0, 0) to (10, 0), down and up by columns. */
     private static final String SNAKE = "#.3#.3#.#/#.#.#.#.#.#/#.#.#.#.#.#/#.#.#.#.#.#/#.#.#.#.#.#/#.#.#.#.#.#/#.#.#.#.#.#/3#.3#.3#";
     private static final int[] NO_SUCH_PLACE = {-1, -96, 96, 97, 192, Integer.MAX_VALUE, Integer.MIN_VALUE};
@@ -30,7 +29,7 @@ public final class GroundEdgesTest {
 
     private static void stepsBounds(Due due) {
         due.sentence("promise 12: PLACES 0 to 95 each");
-        InsuredFlame x = Due.flame(EIGHT_ROWS, "", "");
+        InsuredFlame x = Due.flame(Due.ALL_WOOD, "", "");
         due.is("steps 0, 95", x.steps(0, 95), 18);
         due.is("steps 95, 0", x.steps(95, 0), 18);
         due.sentence("promise 12: NONE: no such ones");
@@ -80,7 +79,7 @@ public final class GroundEdgesTest {
     private static void stepsAllOver(Due due) {
         due.sentence("promise 12: STEPS between any two of a town of WOOD");
         for (int from = 0; from < 96; from++) {
-            InsuredFlame x = Due.flame(EIGHT_ROWS, "", "");
+            InsuredFlame x = Due.flame(Due.ALL_WOOD, "", "");
             for (int to = 0; to < 96; to++) {
                 int far = Math.abs(from % 12 - to % 12) + Math.abs(from / 12 - to / 12);
                 due.is("steps " + from + ", " + to, x.steps(from, to), far);
@@ -124,7 +123,7 @@ public final class GroundEdgesTest {
         due.is("how many", y.began(1, 0), 2);
         due.is("the lowest", y.began(1, 1), 0);
         due.sentence("BEGAN: the lowest is PLACE 95");
-        InsuredFlame z = Due.flame(EIGHT_ROWS, "*11,7", "");
+        InsuredFlame z = Due.flame(Due.ALL_WOOD, "*11,7", "");
         due.is("the lowest", z.began(0, 1), 95);
         due.sentence("BEGAN: just those PLACES that are not WHOLE now: no more, no fewer, BURNING or BURNT");
         InsuredFlame w = Due.flame("5#.#", "*2,0", "");
@@ -158,7 +157,7 @@ public final class GroundEdgesTest {
 
     private static void breaksBounds(Due due) {
         due.sentence("promise 14: PLACES 0 to 95");
-        InsuredFlame x = Due.flame(EIGHT_ROWS, "", "");
+        InsuredFlame x = Due.flame(Due.ALL_WOOD, "", "");
         due.is("breaks 0, 95", x.breaks(0, 95), 2);
         due.is("breaks 95, 0", x.breaks(95, 0), 2);
         due.sentence("promise 14: NONE: no such ones");
@@ -189,7 +188,7 @@ public final class GroundEdgesTest {
         due.sentence("BREAKS: 1 to 4, the fewest");
         InsuredFlame y = Due.flame("3#", "", "");
         due.is("one way", y.breaks(0, 2), 1);
-        InsuredFlame z = Due.flame(EIGHT_ROWS, "", "");
+        InsuredFlame z = Due.flame(Due.ALL_WOOD, "", "");
         due.is("of a corner", z.breaks(0, 55), 2);
         due.is("of an edge", z.breaks(5, 55), 3);
         due.is("of the middle", z.breaks(40, 55), 4);
@@ -214,7 +213,7 @@ public final class GroundEdgesTest {
     private static void breaksNext(Due due) {
         due.sentence("promise 14: -2: they are NEXT to each other");
         for (int from = 0; from < 96; from++) {
-            InsuredFlame x = Due.flame(EIGHT_ROWS, "", "");
+            InsuredFlame x = Due.flame(Due.ALL_WOOD, "", "");
             for (int to = 0; to < 96; to++) {
                 int far = Math.abs(from % 12 - to % 12) + Math.abs(from / 12 - to / 12);
                 int fewest = Math.min(neighbours(from), neighbours(to));
@@ -319,11 +318,11 @@ public final class GroundEdgesTest {
         InsuredFlame y = new InsuredFlame();
         due.is("no WOOD", y.safe(0), 0);
         due.is("no WOOD, the lowest", y.safe(1), -2);
-        InsuredFlame z = Due.flame(EIGHT_ROWS, "*11,7", "");
+        InsuredFlame z = Due.flame(Due.ALL_WOOD, "*11,7", "");
         due.is("all of it", z.safe(0), 0);
         due.is("all of it, the lowest", z.safe(1), -2);
         due.sentence("promise 16: all, with no fire");
-        InsuredFlame w = Due.flame(EIGHT_ROWS, "", "");
+        InsuredFlame w = Due.flame(Due.ALL_WOOD, "", "");
         due.is("all", w.safe(0), 96);
         due.is("the lowest is PLACE 0", w.safe(1), 0);
     }
@@ -360,7 +359,7 @@ public final class GroundEdgesTest {
         due.is("woods 0", y.woods(0), 0);
         due.is("woods 1", y.woods(1), 0);
         due.sentence("promise 22: one of 96 PLACES");
-        InsuredFlame z = Due.flame(EIGHT_ROWS, "", "");
+        InsuredFlame z = Due.flame(Due.ALL_WOOD, "", "");
         due.is("woods 0", z.woods(0), 1);
         due.is("woods 1", z.woods(1), 96);
         due.sentence("promise 22: 48 of one PLACE each");

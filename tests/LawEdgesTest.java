@@ -10,6 +10,7 @@ public final class LawEdgesTest {
         theOneBefore(due);
         faultPlaces(due);
         rules(due);
+        lawsInTurn(due);
         eachByte(due);
         eachByteInATest(due);
         blanks(due);
@@ -144,12 +145,30 @@ public final class LawEdgesTest {
         for (String rule : new String[] {"", ";", "y", "X", "(", "1", " x", "p", ")"}) {
             due.law(x, rules(16) + ";" + rule, -1000 - at);
         }
+        for (int sign = 0; sign < 256; sign++) {
+            int want = sign == 'b' || sign == 's' || sign == 'x' ? -4000 : -1000;
+            due.is("a 17th RULE that begins with byte " + sign, Due.law(new InsuredFlame(), rules(16) + ";" + (char) sign), want - at);
+        }
         due.sentence("THE LAW: a ; between two, none ahead, behind, or two of them");
         due.law(x, ";" + GOOD, -1000);
         due.law(x, GOOD + ";", -1007);
         due.law(x, GOOD + ";;" + GOOD, -1007);
         due.law(x, GOOD + GOOD, -1006);
         due.law(x, GOOD + "," + GOOD, -1006);
+    }
+
+    /** Long ones, and FAULTS between them: nothing of one is left in the next. */
+    private static void lawsInTurn(Due due) {
+        due.sentence("promise 3: in place of the one before, one LAW behind another");
+        InsuredFlame x = Due.flame("##", "*0,0", "");
+        x.keep();
+        for (int b = 1; b <= 9; b++) {
+            due.law(x, "s10(1=1);b" + b + "+0".repeat(100) + "(1=1)", 2);
+            due.law(x, "s0" + ones(60) + "(1=1);", -1128);
+            x.minutes(1);
+            due.is("b " + b, x.placeIs(1, 0, 2), b);
+            x.undo();
+        }
     }
 
     /** What the LAW ahead + one byte answers for each byte: -1000 less the end if it can stand there. */

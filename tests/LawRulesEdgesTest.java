@@ -1,7 +1,5 @@
 /** Promise 3 at its bounds: what the RULES of THE LAW answer in a fire, and what they are asked with. */
 public final class LawRulesEdgesTest {
-    private static final String EIGHT_ROWS = "9#3#/9#3#/9#3#/9#3#/9#3#/9#3#/9#3#/9#3#";
-
     public static void main(String[] args) {
         Due due = new Due();
         boundsOfB(due);
@@ -153,7 +151,7 @@ public final class LawRulesEdgesTest {
 
     private static void divides(Due due) {
         due.sentence("THE LAW: / is rounded to 0, % has the sign of what is divided, as the machine does");
-        held(due, "7/2=3", "[0-7]/2=0-3", "7/[0-2]=0-3", "[0-7]/[0-2]=3", "7%4=3", "[0-7]%4=0-3", "7%[0-4]=3", "[0-7]%[0-4]=0-3", "0/5=0", "0%5=0", "1/2=0", "1%1=0");
+        held(due, "7/2=3", "[0-7]/2=0-3", "7/[0-2]=0-3", "[0-7]/[0-2]=3", "7%4=3", "[0-7]%4=0-3", "7%[0-4]=3", "[0-7]%[0-4]=0-3", "0/5=0", "0%5=0", "1/2=0", "1%1=0", "7/1=7", "7/7=1", "7/8=0", "7%8=7", "7%7=0");
     }
 
     private static void refusedAmounts(Due due) {
@@ -187,7 +185,21 @@ public final class LawRulesEdgesTest {
     private static void conditions(Due due) {
         due.sentence("THE LAW: PARTS with a | one of which must hold, TESTS with an & all of which must, a ! of one TEST");
         held(due, "1=2|1=2|1=1", "1=1&1=1&1=1", "1=1|1=2&1=2", "1=2&1=2|1=1", "!1=2&1=1", "!1=2|1=2", "!(1=1&1=2)", "!!1=1", "!!!!1=1", "(1=2|1=1)&(1=1|1=2)");
-        notHeld(due, "1=2|1=2|1=2", "1=1&1=1&1=2", "(1=1|1=2)&1=2", "!1=2&1=2", "!(1=2|1=1)", "!!!1=1", "!1=1|1=2", "1=2&(1=1|1=1)");
+        notHeld(due, "1=2|1=2|1=2", "1=1&1=1&1=2", "(1=1|1=2)&1=2", "!1=2&1=2", "!(1=2|1=1)", "!!!1=1", "!1=1|1=2", "1=2&(1=1|1=1)", "!1<2", "!2>1", "!(1<2)", "!(2>1)");
+        held(due, "!2<1", "!1>2", "!1<1", "!1>1", "!!1<2", "!!2>1");
+        due.sentence("THE LAW: as many TESTS as 240 bytes hold");
+        due.is("&, all hold", goesOutBy("x(" + "1=1&".repeat(58) + "1=1)"), 1);
+        due.is("&, the last does not", goesOutBy("x(" + "1=1&".repeat(58) + "1=2)"), 0);
+        due.is("&, the first does not", goesOutBy("x(1=2" + "&1=1".repeat(58) + ")"), 0);
+        due.is("|, the last holds", goesOutBy("x(" + "1=2|".repeat(58) + "1=1)"), 1);
+        due.is("|, none holds", goesOutBy("x(" + "1=2|".repeat(58) + "1=2)"), 0);
+        due.is("both in turn, the last holds", goesOutBy("x(" + "1=1&1=2|".repeat(29) + "1=1)"), 1);
+        due.is("both in turn, none holds", goesOutBy("x(" + "1=1&1=2|".repeat(29) + "1=2)"), 0);
+        due.is("in brackets", goesOutBy("x(" + "(1=1)&".repeat(38) + "!1=2)"), 1);
+        due.sentence("THE LAW: as many FACTORS as 240 bytes hold");
+        due.is("TERMS", burnsFor("b7" + "+1-1".repeat(55) + "(1=1)"), 7);
+        due.is("FACTORS", burnsFor("b7" + "*1/1".repeat(55) + "(1=1)"), 7);
+        due.is("brackets", burnsFor("b7" + "+[1]-[1]".repeat(27) + "(1=1)"), 7);
     }
 
     private static boolean comesBy(String town, String orders, String condition, int place) {
@@ -197,14 +209,14 @@ public final class LawRulesEdgesTest {
 
     private static void thePlace(Due due) {
         due.sentence("THE LAW: p the PLACE (12 Y and X), 0 to 95");
-        due.is("0", comesBy(EIGHT_ROWS, "*1,0", "p=0", 0), true);
-        due.is("11", comesBy(EIGHT_ROWS, "*10,0", "p=11", 11), true);
-        due.is("12", comesBy(EIGHT_ROWS, "*1,1", "p=12", 12), true);
-        due.is("84", comesBy(EIGHT_ROWS, "*0,6", "p=84", 84), true);
-        due.is("95", comesBy(EIGHT_ROWS, "*11,6", "p=95", 95), true);
-        due.is("not the one it goes over from", comesBy(EIGHT_ROWS, "*1,0", "p=1", 0), false);
+        due.is("0", comesBy(Due.ALL_WOOD, "*1,0", "p=0", 0), true);
+        due.is("11", comesBy(Due.ALL_WOOD, "*10,0", "p=11", 11), true);
+        due.is("12", comesBy(Due.ALL_WOOD, "*1,1", "p=12", 12), true);
+        due.is("84", comesBy(Due.ALL_WOOD, "*0,6", "p=84", 84), true);
+        due.is("95", comesBy(Due.ALL_WOOD, "*11,6", "p=95", 95), true);
+        due.is("not the one it goes over from", comesBy(Due.ALL_WOOD, "*1,0", "p=1", 0), false);
         due.sentence("THE LAW: p in b, x");
-        InsuredFlame x = Due.flame(EIGHT_ROWS, "*10,7", "s10(1=1);b8(p=95);b2(1=1);x(p=94)");
+        InsuredFlame x = Due.flame(Due.ALL_WOOD, "*10,7", "s10(1=1);b8(p=95);b2(1=1);x(p=94)");
         x.minutes(1);
         due.is("b of 95", x.placeIs(11, 7, 2), 8);
         due.is("b of 93", x.placeIs(9, 7, 2), 2);
@@ -245,12 +257,18 @@ public final class LawRulesEdgesTest {
         Due.orders(x, "*2,0");
         Due.law(x, "s10(n=1)");
         due.is("beside a BURNT one", x.comes(1, 0, 1), 1);
+        due.sentence("THE LAW: n of each PLACE that burns, 0 to 95");
+        for (int p = 0; p < 96; p++) {
+            InsuredFlame y = Due.flame(Due.ALL_WOOD, "*" + p % 12 + "," + p / 12, "s10(n=1)");
+            int next = 4 - (p % 12 == 0 || p % 12 == 11 ? 1 : 0) - (p / 12 == 0 || p / 12 == 7 ? 1 : 0);
+            due.is("from " + p, y.minutes(1), 1 + next);
+        }
         due.sentence("THE LAW: n of PLACES NEXT alone: none beyond an edge");
-        due.is("11 is not NEXT to 12", comesBy(EIGHT_ROWS, "*10,0;*0,1", "n=1", 11), true);
-        due.is("12 is not NEXT to 11", comesBy(EIGHT_ROWS, "*11,0;*1,1", "n=1", 12), true);
-        due.is("0 is not NEXT to 84", comesBy(EIGHT_ROWS, "*0,7;*1,0", "n=1", 0), true);
-        due.is("0 is not NEXT to 11", comesBy(EIGHT_ROWS, "*11,0;*1,0", "n=1", 0), true);
-        due.is("95 is not NEXT to 11, 84", comesBy(EIGHT_ROWS, "*11,0;*0,7;*10,7", "n=1", 95), true);
+        due.is("11 is not NEXT to 12", comesBy(Due.ALL_WOOD, "*10,0;*0,1", "n=1", 11), true);
+        due.is("12 is not NEXT to 11", comesBy(Due.ALL_WOOD, "*11,0;*1,1", "n=1", 12), true);
+        due.is("0 is not NEXT to 84", comesBy(Due.ALL_WOOD, "*0,7;*1,0", "n=1", 0), true);
+        due.is("0 is not NEXT to 11", comesBy(Due.ALL_WOOD, "*11,0;*1,0", "n=1", 0), true);
+        due.is("95 is not NEXT to 11, 84", comesBy(Due.ALL_WOOD, "*11,0;*0,7;*10,7", "n=1", 95), true);
     }
 
     private static void valuesAndSums(Due due) {

@@ -99,6 +99,10 @@ public final class OrdersEdgesTest {
         for (String line : new String[] {"", ";", "x", "@0,0", "=1", "+1", ",", " !1"}) {
             due.orders(x, SIXTEEN + ";" + line, -1048);
         }
+        for (int sign = 0; sign < 256; sign++) {
+            int want = "0123456789*~!".indexOf(sign) >= 0 ? -4048 : -1048;
+            due.is("a 17th LINE that begins with byte " + sign, Due.orders(new InsuredFlame(), SIXTEEN + ";" + (char) sign), want);
+        }
         due.sentence("ORDERS: a ; between two, none ahead, behind, or two of them");
         due.orders(x, ";!1", -1000);
         due.orders(x, "!1;", -1003);
@@ -354,7 +358,7 @@ public final class OrdersEdgesTest {
 
     private static void litPlaces(Due due) {
         due.sentence("ORDERS: *: a PLACE of WOOD that is WHOLE is BURNING, 3 MINUTES yet");
-        InsuredFlame x = Due.flame("9#3#/9#3#/9#3#/9#3#/9#3#/9#3#/9#3#/9#3#", "", "b9(1=1)");
+        InsuredFlame x = Due.flame(Due.ALL_WOOD, "", "b9(1=1)");
         int[][] places = {{0, 0}, {11, 0}, {0, 7}, {11, 7}};
         for (int[] place : places) {
             due.orders(x, "*" + place[0] + "," + place[1], 1);

@@ -142,6 +142,10 @@ public final class TownEdgesTest {
             due.town(x, rows(8, "#") + "/" + ninth, -1016);
         }
         due.is("the town stays", x.woods(1), 8);
+        for (int sign = 0; sign < 256; sign++) {
+            int want = "23456789.#+~".indexOf(sign) >= 0 ? -4016 : -1016;
+            due.is("a ninth ROW that begins with byte " + sign, Due.town(new InsuredFlame(), rows(8, "#") + "/" + (char) sign), want);
+        }
     }
 
     private static void signsInARow(Due due) {
@@ -235,7 +239,7 @@ public final class TownEdgesTest {
 
     private static void placeBounds(Due due) {
         due.sentence("promise 8: PLACES, X 0 to 11, Y 0 to 7");
-        InsuredFlame x = Due.flame(rows(8, "9#3#"), "", "");
+        InsuredFlame x = Due.flame(Due.ALL_WOOD, "", "");
         int[][] good = {{0, 0}, {11, 0}, {0, 7}, {11, 7}};
         for (int[] place : good) {
             due.is("placeIs " + place[0] + ", " + place[1], x.placeIs(place[0], place[1], 0), 1);
